@@ -7,8 +7,10 @@ import java.util.Random;
 
 /** Compares RankCalc with a second reading of the document, recursive and with exact numbers. */
 public final class ModelTest {
-    private static final int OBJECTS = 4000;
-    private static final int STATEMENTS = 40;
+    private static final int OBJECTS = 12000;
+    /** The document promises nothing beyond these, and one statement with a look at its state takes no more. */
+    private static final int CALLS = 512;
+    private static final int CALLS_OF_ONE = 120;
     private static final String F = "+-*%|<>=&^";
     private static final Random CHOICE = new Random(20261115);
 
@@ -60,6 +62,7 @@ public final class ModelTest {
     private static int done;
     private static String text;
     private static int at;
+    private static int calls;
 
     public static void main(String[] args) {
         int[] kinds = new int[128];
@@ -77,11 +80,15 @@ public final class ModelTest {
         done = 0;
         StringBuilder story = new StringBuilder();
         boolean named = CHOICE.nextInt(3) > 0;
-        for (int k = 0; k < STATEMENTS; k++) {
+        calls = 0;
+        for (int k = 0; calls + CALLS_OF_ONE <= CALLS; k++) {
             String statement = named && k < 8 ? (char) ('A' + k) + ":" + shapedNumbers()
                 : CHOICE.nextInt(12) == 0 ? spoil(statement()) : statement();
             if (statement.length() > 200) {
                 continue;
+            }
+            if (CHOICE.nextInt(8) == 0) {
+                story.append(forget(x)).append('\n');
             }
             story.append(statement).append('\n');
             String want = model(statement);
@@ -164,16 +171,19 @@ public final class ModelTest {
     private static String spoil(String statement) {
         int k = CHOICE.nextInt(statement.length() + 1);
         String more = pickOf("", "", " ", "(", ")", ":", "_", "1", "+", ".", "@", "/", "\\", "x", "A", "p");
-        return statement.substring(0, k) + more + statement.substring(Math.min(statement.length(), k + CHOICE.nextInt(2)));
+        int end = Math.min(statement.length(), k + CHOICE.nextInt(2));
+        return statement.substring(0, k) + more + statement.substring(end);
     }
 
     // The two answers.
 
     private static String real(RankCalc x, String statement) {
         x.clear();
-        for (int k = 0; k < statement.length(); k++) {
-            x.feed(statement.charAt(k));
+        for (int k = 0; k < statement.length(); k += 4) {
+            x.feed(Checks.pack(statement, k));
+            calls++;
         }
+        calls += 2;
         try {
             return String.valueOf(x.run());
         } catch (IllegalStateException e) {
@@ -191,16 +201,34 @@ public final class ModelTest {
         }
     }
 
+    private static String forget(RankCalc x) {
+        int k = CHOICE.nextInt(10) - 1;
+        boolean want = k >= 0 && k < 8 && NAMES[k] != null;
+        boolean got = x.forget(k);
+        calls++;
+        if (want) {
+            NAMES[k] = null;
+        }
+        if (got != want) {
+            System.out.println("forget(" + k + ") answered " + got + ", due is " + want);
+            System.exit(1);
+        }
+        return "forget(" + k + ")";
+    }
+
     private static String state(RankCalc x) {
         StringBuilder told = new StringBuilder();
-        for (int k = 0; k < x.rank(); k++) {
+        int rank = x.rank();
+        for (int k = 0; k < rank; k++) {
             told.append(x.axis(k)).append(' ');
         }
         told.append('[');
-        for (int k = 0; k < x.size(); k++) {
+        int size = x.size();
+        for (int k = 0; k < size; k++) {
             told.append(x.element(k)).append(' ');
         }
-        told.append("] done ").append(x.done()).append(" held");
+        calls += 12 + rank + size;
+        told.append("] sum ").append(x.sum()).append(" done ").append(x.done()).append(" held");
         for (int k = 0; k < 8; k++) {
             told.append(' ').append(x.held(k));
         }
@@ -212,7 +240,8 @@ public final class ModelTest {
         result.lengths.forEach(length -> told.append(length).append(' '));
         told.append('[');
         result.cells.forEach(cell -> told.append(cell).append(' '));
-        told.append("] done ").append(done).append(" held");
+        long sum = result.cells.stream().mapToLong(cell -> cell).sum();
+        told.append("] sum ").append(sum).append(" done ").append(done).append(" held");
         for (Arr name : NAMES) {
             told.append(' ').append(name == null ? -1 : name.cells.size());
         }

@@ -1,14 +1,9 @@
 import java.lang.reflect.Member;
 import java.lang.reflect.Modifier;
-import java.util.NoSuchElementException;
 import java.util.TreeSet;
 
 /** Each promise by examples: ordinary inputs, the edges that the document names, and wrong inputs. */
-public final class PromisesTest {
-    private static final String MIN = "(_999999999+_999999999-147483650)";
-    private static final String MAX = "(999999999+999999999+147483649)";
-    private static int wrong = 0;
-
+public final class PromisesTest extends Checks {
     public static void main(String[] args) {
         face();
         newObject();
@@ -33,93 +28,7 @@ public final class PromisesTest {
         ravelAndJoin();
         transposeAndReverse();
         pick();
-        System.out.println(wrong == 0 ? "all promises hold" : wrong + " answers are wrong");
-        if (wrong != 0) {
-            System.exit(1);
-        }
-    }
-
-    private static void due(String what, Object got, Object want) {
-        if (!String.valueOf(got).equals(String.valueOf(want))) {
-            wrong++;
-            System.out.println(what + " answered " + got + ", due is " + want);
-        }
-    }
-
-    private static int pack(String text, int from) {
-        int w = 0;
-        for (int k = 0; k < 4 && from + k < text.length(); k++) {
-            w |= text.charAt(from + k) << 8 * k;
-        }
-        return w;
-    }
-
-    private static void write(RankCalc x, String text) {
-        x.clear();
-        for (int k = 0; k < text.length(); k += 4) {
-            x.feed(pack(text, k));
-        }
-    }
-
-    private static String outcome(RankCalc x, String text) {
-        write(x, text);
-        return outcome(x);
-    }
-
-    private static String outcome(RankCalc x) {
-        try {
-            return String.valueOf(x.run());
-        } catch (IllegalStateException e) {
-            return "S";
-        } catch (ArithmeticException e) {
-            return "D";
-        } catch (IllegalArgumentException e) {
-            return "L";
-        } catch (UnsupportedOperationException e) {
-            return "R";
-        } catch (IndexOutOfBoundsException e) {
-            return "X";
-        } catch (NoSuchElementException e) {
-            return "N";
-        }
-    }
-
-    private static String show(RankCalc x) {
-        StringBuilder shown = new StringBuilder();
-        for (int k = 0; k < x.rank(); k++) {
-            shown.append(x.axis(k)).append(' ');
-        }
-        shown.append('[');
-        for (int k = 0; k < x.size(); k++) {
-            shown.append(k == 0 ? "" : " ").append(x.element(k));
-        }
-        return shown.append(']').toString();
-    }
-
-    /** Runs all of the texts on one new object; the result of the last is looked at. */
-    private static void makes(String want, String... texts) {
-        RankCalc x = new RankCalc();
-        String last = "";
-        for (String text : texts) {
-            last = outcome(x, text);
-        }
-        due(String.join(" ; ", texts), show(x), want);
-        due(String.join(" ; ", texts) + " run()", last, x.size());
-    }
-
-    /** The last of the texts answers what is told and leaves the result and the names alone. */
-    private static void answers(String want, String... texts) {
-        RankCalc x = new RankCalc();
-        outcome(x, "H:2 2r7 8 9 6");
-        String last = "";
-        for (int k = 0; k < texts.length; k++) {
-            if (k == texts.length - 1) {
-                outcome(x, "H");
-            }
-            last = outcome(x, texts[k]);
-        }
-        due(String.join(" ; ", texts), last, want);
-        due(String.join(" ; ", texts) + ": the result after it", show(x), "2 2 [7 8 9 6]");
+        end("all promises hold");
     }
 
     private static void face() {
@@ -286,8 +195,8 @@ public final class PromisesTest {
             "1(2)", "(1)2", "(1)(2)", "A B", "A 1", "1 A", "()", "(", ")", "(1", "1)", ")1(", "(1))", "A:", ":1",
             "A:B:1", "(A:1)", "1:2", "A::1", "1+A:2", "/1", "\\1", ".", "@", "1.2", "1@2", "1+/2", "1+\\2", "+.*1",
             "+@1", "1+.2", "1+.", "1+.A", "1+.r2", "1r.+2", "1r@2", "1,@2", "r/1", "i/1", ",/1", "p/1", "t\\1", "v\\1",
-            "1+.*.-2", "1+@@2", "+//1", "1+@.*2", "(((((((7)))))))", "(1+)2", "1)+(2", "-", "i", "r", "1,", "1 2 p", "1p.+2",
-            "1+.(2)", "1 + . 2", "(-)1", "A:()"}) {
+            "1+.*.-2", "1+@@2", "+//1", "1+@.*2", "(((((((7)))))))", "(1+)2", "1)+(2", "-", "i", "r", "1,", "1 2 p",
+            "1p.+2", "1+.(2)", "1 + . 2", "(-)1", "A:()"}) {
             answers("-1", text);
         }
         makes("[7]", "((((((7))))))");
