@@ -4,6 +4,7 @@ import java.util.NoSuchElementException;
 abstract class Checks {
     static final String MIN = "(_999999999+_999999999-147483650)";
     static final String MAX = "(999999999+999999999+147483649)";
+    private static final int MOST_TOLD = 200;
     private static String sentence = "";
     private static int checks = 0;
     private static int wrong = 0;
@@ -22,8 +23,15 @@ abstract class Checks {
         checks++;
         if (!String.valueOf(got).equals(String.valueOf(want))) {
             wrong++;
-            System.out.println(what + " answered " + got + ", due is " + want
+            tell(what + " answered " + got + ", due is " + want
                 + (sentence.isEmpty() ? "" : "\n    by: " + sentence));
+        }
+    }
+
+    /** A test of a million texts could otherwise fill the screen with one fault. */
+    private static void tell(String fault) {
+        if (wrong <= MOST_TOLD) {
+            System.out.println(fault);
         }
     }
 

@@ -12,6 +12,8 @@ public final class ModelTest {
     private static final int CALLS = 512;
     private static final int CALLS_OF_ONE = 120;
     private static final String F = "+-*%|<>=&^";
+    private static final int[] LENGTHS = {0, 1, 2, 7, 48};
+    private static final String[] TWO_OF_SHAPES = {"+", "%", "+.*", "-.%", "-@", "%@", "r", ",", "p"};
     private static final Random CHOICE = new Random(20261115);
 
     /** Thrown where the document tells a fault. */
@@ -69,18 +71,23 @@ public final class ModelTest {
         for (int k = 0; k < OBJECTS; k++) {
             oneObject(kinds);
         }
+        everyShape(kinds);
         System.out.println("statements by outcome: made " + kinds['m'] + " refused " + kinds['-'] + " S " + kinds['S']
             + " D " + kinds['D'] + " L " + kinds['L'] + " R " + kinds['R'] + " X " + kinds['X'] + " N " + kinds['N']);
     }
 
-    private static void oneObject(int[] kinds) {
-        RankCalc x = new RankCalc();
+    private static RankCalc newObject() {
         Arrays.fill(NAMES, null);
         result = new Arr(List.of(0), List.of());
         done = 0;
+        calls = 0;
+        return new RankCalc();
+    }
+
+    private static void oneObject(int[] kinds) {
+        RankCalc x = newObject();
         StringBuilder story = new StringBuilder();
         boolean named = CHOICE.nextInt(3) > 0;
-        calls = 0;
         for (int k = 0; calls + CALLS_OF_ONE <= CALLS; k++) {
             String statement = named && k < 8 ? (char) ('A' + k) + ":" + shapedNumbers()
                 : CHOICE.nextInt(12) == 0 ? spoil(statement()) : statement();
@@ -90,16 +97,65 @@ public final class ModelTest {
             if (CHOICE.nextInt(8) == 0) {
                 story.append(forget(x)).append('\n');
             }
-            story.append(statement).append('\n');
-            String want = model(statement);
-            String got = real(x, statement);
-            kinds["SDLRXN-".contains(want.substring(0, 1)) ? want.charAt(0) : 'm']++;
-            String wantState = want + " " + state();
-            String gotState = got + " " + state(x);
-            if (!wantState.equals(gotState)) {
-                System.out.println(story + "answered " + gotState + "\n  due is " + wantState);
-                System.exit(1);
+            compare(x, statement, story, kinds);
+        }
+    }
+
+    private static void compare(RankCalc x, String statement, StringBuilder story, int[] kinds) {
+        story.append(statement).append('\n');
+        String want = model(statement);
+        String got = real(x, statement);
+        kinds["SDLRXN-".contains(want.substring(0, 1)) ? want.charAt(0) : 'm']++;
+        String wantState = want + " " + state();
+        String gotState = got + " " + state(x);
+        if (!wantState.equals(gotState)) {
+            System.out.println(story + "answered " + gotState + "\n  due is " + wantState);
+            System.exit(1);
+        }
+    }
+
+    // Every function on every shape of these lengths, and on every two of them.
+
+    private static void everyShape(int[] kinds) {
+        List<String> shapes = shapes();
+        for (String left : shapes) {
+            for (char f : F.toCharArray()) {
+                statements(kinds, "A:" + left + "r1 0 2", f + "/A", f + "\\A");
             }
+            statements(kinds, "A:" + left + "r1 _2 0", "-A", "|A", "*A", "iA");
+            statements(kinds, "A:" + left + "ri48", "rA", ",A", "tA", "vA");
+            for (String right : shapes) {
+                for (String two : TWO_OF_SHAPES) {
+                    statements(kinds, "A:" + left + "r1 0 2", "B:" + right + "r6 1 3", "A" + two + "B");
+                }
+                statements(kinds, "A:" + left + "r0", "B:" + right + "ri48", "ApB");
+            }
+        }
+    }
+
+    private static List<String> shapes() {
+        List<String> shapes = new ArrayList<>(List.of("(i0)"));
+        for (int x : LENGTHS) {
+            shapes.add(String.valueOf(x));
+            for (int y : LENGTHS) {
+                if (x * y <= 48) {
+                    shapes.add(x + " " + y);
+                }
+                for (int z : LENGTHS) {
+                    if (x * y * z <= 48) {
+                        shapes.add(x + " " + y + " " + z);
+                    }
+                }
+            }
+        }
+        return shapes;
+    }
+
+    private static void statements(int[] kinds, String... statements) {
+        RankCalc x = newObject();
+        StringBuilder story = new StringBuilder();
+        for (String statement : statements) {
+            compare(x, statement, story, kinds);
         }
     }
 
