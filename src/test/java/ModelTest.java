@@ -114,7 +114,7 @@ public final class ModelTest {
         }
     }
 
-    // Every function on every shape of these lengths, and on every two of them.
+    // Every function with one argument on every shape of these lengths, and some with two on every two of them.
 
     private static void everyShape(int[] kinds) {
         List<String> shapes = shapes();
